@@ -233,8 +233,8 @@ public final class RammedCobbles {
         if (!isLoad(load)) {
             return OUTSIDE;
         }
-        loads.clear();
-        loads.lay(now, cell, load);
+        loads.begin(now);
+        loads.lay(cell, load);
         return loads.borne[by];
     }
 
@@ -245,8 +245,8 @@ public final class RammedCobbles {
         if (!isLoad(load)) {
             return OUTSIDE;
         }
-        loads.clear();
-        loads.lay(now, cell, load);
+        loads.begin(now);
+        loads.lay(cell, load);
         return loads.greatest();
     }
 
@@ -768,6 +768,7 @@ public final class RammedCobbles {
     /** Where the CELLS of THE STREET lie; without one it has none. */
     private static final class Plan {
         private final int[] near = new int[MOST_CELLS * SIDES];
+        final boolean[] atRim = new boolean[MOST_CELLS];
         int rows = 0;
         int wide = 0;
         int cells = 0;
@@ -777,14 +778,14 @@ public final class RammedCobbles {
             rows = newRows;
             wide = newWide;
             cells = newRows * newWide;
-            int at = 0;
             for (int row = 0; row < rows; row++) {
                 for (int column = 0; column < wide; column++) {
-                    near[at] = numberOf(row - 1, column);
-                    near[at + 1] = numberOf(row, column + 1);
-                    near[at + 2] = numberOf(row + 1, column);
-                    near[at + 3] = numberOf(row, column - 1);
-                    at += SIDES;
+                    int cell = row * wide + column;
+                    near[cell * SIDES] = numberOf(row - 1, column);
+                    near[cell * SIDES + 1] = numberOf(row, column + 1);
+                    near[cell * SIDES + 2] = numberOf(row + 1, column);
+                    near[cell * SIDES + 3] = numberOf(row, column - 1);
+                    atRim[cell] = row == 0 || row == rows - 1 || column == 0 || column == wide - 1;
                 }
             }
         }
@@ -797,15 +798,6 @@ public final class RammedCobbles {
         /** NONE: THE STREET ends on that side. */
         int beside(int cell, int side) {
             return near[cell * SIDES + side];
-        }
-
-        boolean isAtRim(int cell) {
-            for (int side = 0; side < SIDES; side++) {
-                if (beside(cell, side) == NONE) {
-                    return true;
-                }
-            }
-            return false;
         }
 
         int steps(int speed) {
@@ -822,6 +814,8 @@ public final class RammedCobbles {
         final int[] seats = new int[MOST_CELLS];
         final int[] joints = new int[MOST_CELLS];
         int seed = 1;
+        /** How often years have changed a KIND here. */
+        int changes = 0;
 
         Street(Plan plan) {
             this.plan = plan;
@@ -1004,6 +998,7 @@ public final class RammedCobbles {
             if (kind == SAND || kind == KERB) {
                 return false;
             }
+            changes++;
             seats[cell] = 0;
             if (kind == STONE || kind == ODD) {
                 kinds[cell] = LOOSE;
@@ -1023,6 +1018,7 @@ public final class RammedCobbles {
         void freeze(int cell, int frost) {
             boolean mayLift = kinds[cell] == STONE || kinds[cell] == ODD;
             if (mayLift && drawOfTen() < frost) {
+                changes++;
                 kinds[cell] = TILTED;
                 heights[cell] += 2;
                 seats[cell] = 0;
@@ -1128,44 +1124,44 @@ public final class RammedCobbles {
     /** How LOADS spread. */
     private static final class Loads {
         private final Plan plan;
+        /** NONE: SAND, which neither takes nor gives. */
+        private final int[] grips = new int[MOST_CELLS];
         final int[] borne = new int[MOST_CELLS];
 
         Loads(Plan plan) {
             this.plan = plan;
         }
 
-        void clear() {
+        /** Nothing is borne yet; all that is laid from now on goes by the KINDS of now. */
+        void begin(Street street) {
             for (int cell = 0; cell < plan.cells; cell++) {
                 borne[cell] = 0;
+                grips[cell] = street.kinds[cell] == SAND ? NONE : street.grip(cell);
             }
         }
 
-        /** What is BORNE is added to what the stones bear yet. */
-        void lay(Street street, int cell, int load) {
-            if (street.kinds[cell] == SAND) {
+        void lay(int cell, int load) {
+            if (grips[cell] == NONE) {
                 return;
             }
             int left = load;
             for (int side = 0; side < SIDES; side++) {
                 int next = plan.beside(cell, side);
-                if (next != NONE) {
-                    int given = load * street.grip(next) / 20;
+                if (next != NONE && grips[next] > 0) {
+                    int given = load * grips[next] / 20;
                     left -= given;
-                    passOn(street, next, given, cell);
+                    passOn(next, given, cell);
                 }
             }
             borne[cell] += left;
         }
 
-        private void passOn(Street street, int cell, int load, int first) {
-            if (load == 0) {
-                return;
-            }
+        private void passOn(int cell, int load, int first) {
             int left = load;
             for (int side = 0; side < SIDES; side++) {
                 int next = plan.beside(cell, side);
-                if (next != NONE && next != first) {
-                    int given = load * street.grip(next) / 20;
+                if (next != NONE && next != first && grips[next] > 0) {
+                    int given = load * grips[next] / 20;
                     left -= given;
                     borne[next] += given;
                 }
@@ -1198,17 +1194,13 @@ public final class RammedCobbles {
 
         void fill(Street street) {
             for (int cell = 0; cell < plan.cells; cell++) {
-                levels[cell] = plan.isAtRim(cell) ? street.heights[cell] : Integer.MAX_VALUE;
+                levels[cell] = plan.atRim[cell] ? street.heights[cell] : Integer.MAX_VALUE;
             }
             boolean falls = true;
             for (int i = 0; i < MOST_CELLS && falls; i++) {
                 falls = false;
                 for (int cell = 0; cell < plan.cells; cell++) {
-                    int level = Math.max(street.heights[cell], lowestBeside(cell));
-                    if (level < levels[cell]) {
-                        levels[cell] = level;
-                        falls = true;
-                    }
+                    falls = !plan.atRim[cell] && fallsIn(street, cell) || falls;
                 }
             }
         }
@@ -1217,15 +1209,19 @@ public final class RammedCobbles {
             return levels[cell] - street.heights[cell];
         }
 
-        private int lowestBeside(int cell) {
-            int lowest = Integer.MAX_VALUE;
+        /** The level falls to the lowest beside it, but not below the CELL itself: whether it does. */
+        private boolean fallsIn(Street street, int cell) {
+            int lowest = levels[cell];
             for (int side = 0; side < SIDES; side++) {
                 int next = plan.beside(cell, side);
                 if (next != NONE) {
                     lowest = Math.min(lowest, levels[next]);
                 }
             }
-            return lowest;
+            int level = Math.max(street.heights[cell], lowest);
+            boolean falls = level < levels[cell];
+            levels[cell] = level;
+            return falls;
         }
     }
 
@@ -1244,22 +1240,28 @@ public final class RammedCobbles {
 
         int pass(Street street, CartText carts, int years, int frost) {
             int lost = 0;
+            boolean isLaid = false;
             for (int year = 0; year < years; year++) {
-                layCarts(street, carts);
+                // Loads spread by KINDS alone: where none has changed, WEAR is that of the year before.
+                if (!isLaid) {
+                    layCarts(street, carts);
+                }
+                int changes = street.changes;
                 lost += wearDown(street);
                 freeze(street, frost);
                 washOut(street);
+                isLaid = street.changes == changes;
             }
             return lost;
         }
 
         private void layCarts(Street street, CartText carts) {
-            wear.clear();
+            wear.begin(street);
             for (int i = 0; i < carts.many; i++) {
                 for (int column = 0; column < plan.wide; column++) {
                     int cell = plan.numberOf(carts.rows[i], column);
                     if (cell != NONE) {
-                        wear.lay(street, cell, carts.loads[i]);
+                        wear.lay(cell, carts.loads[i]);
                     }
                 }
             }

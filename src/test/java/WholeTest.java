@@ -113,10 +113,19 @@ public final class WholeTest {
         c.due("all of it", y.digest(), Checks.digestOf(
                 0, 1, -2, 1, 0, 1, 0, 1, 3, 0, 0, 0, 2, 0, -1, 0, -5, 0, 0, 2, 0, -1, 0, -5, 0, 0, 1, 0,
                 0, 21, 6, 2, 0, 'z', 4, 2, 1, 1, 1, 1, 1, 0));
-        y.mend(3, 1);
         RammedCobbles z = Checks.streetOf("l1./..", "0x21");
         c.due("what would be lost", z.digest(), Checks.digestOf(
                 2, 1, 0, 0, 0, 0, 0, -1, 0, -5, 0, 0, 0, 0, -1, 0, -5, 0, 0, 0, 0, -1, 0, -5, 0, 0, 0, 0,
                 0, 21, 0, 1, 4, 1, 1, 0, 0, 1, 1, 0));
+        // Grit of 1 keeps the stone for a year; then it is loose, and lost in the third; grit of 2, in the fourth.
+        RammedCobbles third = Checks.streetOf("s1./..", "0x25");
+        third.grit(1);
+        c.due("lost in the third year", third.digest(), Checks.digestOf(
+                0, 1, 0, 0, 1, 1, 0, -1, 0, -5, 0, 0, 2, 0, -1, 0, -5, 0, 0, 2, 0, -1, 0, -5, 0, 0, 0, 0,
+                0, 25, 0, 1, 4, 1, 1, 0, 0, 1, 1, 0));
+        third.grit(2);
+        c.due("lost in the fourth year", third.digest(), Checks.digestOf(
+                0, 1, 0, 0, 2, 2, 0, -1, 0, -5, 0, 0, 2, 0, -1, 0, -5, 0, 0, 2, 0, -1, 0, -5, 0, 0, 0, 0,
+                0, 25, 0, 0, 4, 1, 1, 0, 0, 1, 1, 0));
     }
 }

@@ -82,6 +82,9 @@ public final class YearsTest {
         int sink = x.blow(7, 99);
         c.due("a way out sinks", sink, 12);
         c.looks(x, "water below the lowest way out", () -> x.water(4), 33);
+        RammedCobbles right = Checks.streetOf("s1s1s1/s1../s1s1s1");
+        c.looks(right, "no water beside a low rim on the right", () -> right.water(4), 0);
+        c.looks(right, "nor at it", () -> right.water(5), 0);
         RammedCobbles y = Checks.streetOf("s1.s1/s1.s1/s1s1s1");
         c.looks(y, "no water beside a way as low", () -> y.water(4), 0);
         y.mend(4, 1);
@@ -326,6 +329,11 @@ public final class YearsTest {
         c.due("first of loose ones", y.first(1, 1, 0, 0), 1);
         c.due("first of loose ones: lost", y.first(1, 1, 0, 1), 0);
         c.due("first of four", y.first(4, 1, 0, 0), 15);
+        RammedCobbles sand = Checks.streetOf("../..", "0x99,0x1");
+        c.due("first: sand with size 5 bears 100", sand.first(1, 2, 0, 0), 1);
+        Checks.write(sand, "0x99,0x2");
+        sand.carts();
+        c.due("first: sand with size 5 does not bear 101", sand.first(1, 2, 0, 0), 4);
     }
 
     private static void firstOfEight() {
