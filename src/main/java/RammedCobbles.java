@@ -18,6 +18,7 @@ public final class RammedCobbles {
     private static final int MOST_WEIGHT = 99, MOST_ROUNDS = 40, MOST_UNTIL = 99, MOST_SEAT = 99;
     private static final int MOST_YEARS = 20, MOST_FROST = 10, MOST_SPEED = 5, MOST_SIZE = 9;
     private static final int MOST_MENDABLE = 8, MOST_FIRSTS = 20, FIRST_SIZE = 5;
+    private static final int HIGHEST = 2147483647, LOWEST = -2147483648;
 
     private final Page page = new Page();
     private final StreetText streetText = new StreetText();
@@ -211,7 +212,7 @@ public final class RammedCobbles {
             return OUTSIDE;
         }
         int best = 0;
-        int least = Integer.MAX_VALUE;
+        int least = HIGHEST;
         for (int order = 0; order < ORDERS; order++) {
             trial.copyFrom(now);
             ramming.go(trial, weight, rounds, order);
@@ -315,7 +316,7 @@ public final class RammedCobbles {
         }
         firstsDone++;
         int best = 0;
-        int least = Integer.MAX_VALUE;
+        int least = HIGHEST;
         int sets = 1 << many;
         // When nothing is lost by a set, none behind it can be better.
         for (int bits = 1; bits < sets && least > 0; bits++) {
@@ -964,8 +965,8 @@ public final class RammedCobbles {
 
         /** UNEVEN. */
         int spread() {
-            int least = Integer.MAX_VALUE;
-            int greatest = Integer.MIN_VALUE;
+            int least = HIGHEST;
+            int greatest = LOWEST;
             for (int cell = 0; cell < plan.cells; cell++) {
                 if (kinds[cell] != SAND) {
                     least = Math.min(least, heights[cell]);
@@ -1194,7 +1195,7 @@ public final class RammedCobbles {
 
         void fill(Street street) {
             for (int cell = 0; cell < plan.cells; cell++) {
-                levels[cell] = plan.atRim[cell] ? street.heights[cell] : Integer.MAX_VALUE;
+                levels[cell] = plan.atRim[cell] ? street.heights[cell] : HIGHEST;
             }
             boolean falls = true;
             for (int i = 0; i < MOST_CELLS && falls; i++) {
