@@ -3,7 +3,8 @@ import java.util.Random;
 /** Runs of calls by fixed seeds, right and wrong ones, each answer and the digest behind it compared with Model's. */
 public final class RandomRunsTest {
     private static final int RUNS = 250;
-    private static final int CALLS = 250;
+    /** An object is used for 512 calls; reading a text takes 11 at most, and each is followed by a digest. */
+    private static final int MOST_CALLS = 512, AHEAD_OF_THE_LAST = 500;
     private static final int[] FAR = {-1, Integer.MIN_VALUE, Integer.MAX_VALUE, 1000000, -1001, 31};
     private static final Checks c = new Checks("RandomRunsTest");
 
@@ -11,6 +12,7 @@ public final class RandomRunsTest {
     private final int run;
     private final RammedCobbles x = new RammedCobbles();
     private final Model m = new Model();
+    private int calls = 0;
 
     private RandomRunsTest(int run) {
         this.run = run;
@@ -29,17 +31,21 @@ public final class RandomRunsTest {
             readStreet();
             readCarts();
         }
-        for (int i = 0; i < CALLS; i++) {
+        while (calls < AHEAD_OF_THE_LAST) {
             callOne();
+            due("digest()", x.digest(), m.digest());
+        }
+        while (calls < MOST_CALLS) {
             due("digest()", x.digest(), m.digest());
         }
     }
 
     private void due(String call, long got, long want) {
-        c.due("run " + run + ": " + call, got, want);
+        calls++;
+        c.due("run " + run + ", call " + calls + ": " + call, got, want);
     }
 
-    /** Mostly a number from least to most, sometimes one just outside, sometimes one far off. */
+    /** Mostly a number from least to most, often one of these two, sometimes one just outside, or one far off. */
     private int pick(int least, int most) {
         int luck = random.nextInt(60);
         if (luck == 0) {
@@ -47,6 +53,9 @@ public final class RandomRunsTest {
         }
         if (luck < 3) {
             return luck == 1 ? least - 1 : most + 1;
+        }
+        if (luck < 10) {
+            return luck < 6 ? least : most;
         }
         return least + random.nextInt(most - least + 1);
     }
@@ -210,7 +219,7 @@ public final class RandomRunsTest {
                 due("water", x.water(a), m.water(a));
                 return;
             case 3:
-                int v = random.nextInt();
+                int v = random.nextBoolean() ? random.nextInt() : pick(0, Integer.MAX_VALUE - 1);
                 due("seed", x.seed(v), m.seed(v));
                 return;
             case 4:

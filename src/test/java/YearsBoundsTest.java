@@ -25,6 +25,8 @@ public final class YearsBoundsTest {
         frosts();
         drawsAreTakenByWhom();
         kerbInWater();
+        waterBeforeOneLifts();
+        stepsOfAYear();
         yearsOneToTwenty();
         yearsOneByOne();
         yearsRefused();
@@ -177,17 +179,10 @@ public final class YearsBoundsTest {
         c.looks(hill, "higher than the rim", () -> hill.water(4), 0);
         hill.set(40);
         c.looks(hill, "much higher than the rim", () -> hill.water(4), 0);
+        hill.set(0);
         hill.ram(20, 40, 0);
-        c.due("a hill sinks", hill.cell(4, 2), 40 - sinkAlone(20, 40));
-        c.looks(hill, "below the rim by what is above 35", () -> hill.water(4), Math.max(0, sinkAlone(20, 40) - 45));
-    }
-
-    private static int sinkAlone(int weight, int rounds) {
-        int sum = 0;
-        for (int i = 0; i < rounds; i++) {
-            sum += weight / (4 + i);
-        }
-        return sum;
+        c.due("a hill sinks by 5, 4, 3, 2 four times, 1 ten times", hill.cell(4, 2), -30);
+        c.looks(hill, "below the rim of sand", () -> hill.water(4), 25);
     }
 
     /** "of all ways .. that on which the greatest HEIGHT (its own, too) is least": round corners, not across them. */
@@ -333,6 +328,52 @@ public final class YearsBoundsTest {
         c.due("the kerb's kind", x.cell(12, 0), 4);
         c.due("the kerb's height", x.cell(12, 2), 0);
         c.due("no draw", x.count(5), 1147902781);
+    }
+
+    /**
+     * "In all CELLS where WATER stands then": behind step 2, and before one lifts. The stone in the middle lifts above
+     * the way out of the one at the right; WATER stands there in the next YEAR.
+     */
+    private static void waterBeforeOneLifts() {
+        RammedCobbles x = Checks.streetOf("k9k9k9k9/s9s9s9k9/k9k9k9k9", NO_LOADS);
+        x.set(10);
+        c.due("the way out: 60 by 12", x.blow(4, 60), 5);
+        c.due("the middle: 84 by 14", x.blow(5, 84), 6);
+        c.due("at the right: 75 by 15", x.blow(6, 75), 5);
+        x.grit(3);
+        x.years(1, 10);
+        c.due("one draw", x.count(5), 1103527590);
+        c.due("the middle is lifted", x.cell(5, 2), 6);
+        c.due("at the right is a stone yet", x.cell(6, 0), 0);
+        c.due("its joint", x.cell(6, 4), 3);
+        c.due("water stands there now", x.water(6), 1);
+        x.years(1, 10);
+        c.due("the second draw", x.count(5), 377401575);
+        c.due("at the right is lifted", x.cell(6, 2), 7);
+        c.due("its joint then", x.cell(6, 4), 2);
+    }
+
+    /** What is LOST in step 2 lets WATER out in step 3 and is SAND in step 4; what is LOOSE by step 2 takes no DRAW. */
+    private static void stepsOfAYear() {
+        RammedCobbles out = Checks.streetOf("k9k9k9/l1s9k9/k9k9k9", "1x99,1x99,1x99");
+        c.due("the middle: 52 by 13", out.blow(4, 52), 4);
+        c.due("water as the year begins", out.water(4), 4);
+        out.grit(5);
+        out.years(1, 10);
+        c.due("wear 186 of 20 and 130: lost", out.cell(3, 0), NONE);
+        c.due("no water, no draw", out.count(5), 1);
+        c.due("the middle is a stone yet", out.cell(4, 0), 0);
+        c.due("its joint, by sand alone", out.cell(4, 4), 4);
+        RammedCobbles loose = Checks.streetOf("k9k9k9/k9s1k9/k9k9k9", "1x99,1x99,1x99,1x99,1x99,1x99");
+        loose.blow(4, 16);
+        loose.grit(5);
+        c.due("water of 1", loose.water(4), 1);
+        loose.years(1, 10);
+        c.due("wear 330 of 20 and 170: loose", loose.cell(4, 0), 2);
+        c.due("a loose one takes no draw", loose.count(5), 1);
+        c.due("its joint, by water", loose.cell(4, 4), 4);
+        c.due("its height", loose.cell(4, 2), -1);
+        c.due("its seat", loose.cell(4, 3), 0);
     }
 
     // ---- promises 23 and 24
