@@ -18,6 +18,7 @@ public final class RammingBoundsTest {
         blowsOnNothing();
         roundsToRam();
         ordersToRam();
+        ordersOfNine();
         ramOfNoStones();
         ringsJustBelow();
         ringsOfNoneAndAll();
@@ -243,6 +244,22 @@ public final class RammingBoundsTest {
             c.refuses(x, "ram(1, 1, " + order + ")", () -> x.ram(1, 1, order), OUTSIDE);
             c.refuses(x, "proud(0, 1, 1, " + order + ")", () -> x.proud(0, 1, 1, order), OUTSIDE);
             c.refuses(x, "until(1, " + order + ")", () -> x.until(1, order), OUTSIDE);
+        }
+    }
+
+    /** The same with nine: behind the five CELLS of even numbers come four, each beside three of them. */
+    private static void ordersOfNine() {
+        int[][] sinks = {{13, 10, 10, 10, 8, 8, 10, 8, 8}, {8, 8, 10, 8, 8, 10, 10, 10, 13},
+            {13, 10, 10, 10, 8, 8, 10, 8, 8}, {13, 7, 13, 7, 13, 7, 13, 7, 13}};
+        int[] all = {85, 85, 85, 93};
+        for (int order = 0; order < 4; order++) {
+            RammedCobbles x = Checks.streetOf("l1l1l1/l1l1l1/l1l1l1");
+            c.due("nine: ram(1, 3, " + order + ")", x.ram(1, 3, order), 27);
+            c.due("nine: ram(84, 1, " + order + ")", x.ram(84, 1, order), all[order]);
+            for (int cell = 0; cell < 9; cell++) {
+                c.due("nine, order " + order + ": height of " + cell, x.cell(cell, 2), -3 - sinks[order][cell]);
+                c.due("nine, order " + order + ": seat of " + cell, x.cell(cell, 3), 4);
+            }
         }
     }
 

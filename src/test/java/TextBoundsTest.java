@@ -14,6 +14,7 @@ public final class TextBoundsTest {
         lettersUpTo64();
         blankOfNoneAndAll();
         faultOfNoneAndAll();
+        faultAskedAgain();
         everyLetterOfAStreet();
         everyLetterOfCarts();
         streetsOfAllMeasures();
@@ -181,6 +182,25 @@ public final class TextBoundsTest {
         for (int sort : new int[] {Integer.MIN_VALUE, -1, 2, Integer.MAX_VALUE}) {
             c.refuses(none, "fault(" + sort + ")", () -> none.fault(sort), OUTSIDE);
             c.refuses(full, "fault(" + sort + ")", () -> full.fault(sort), OUTSIDE);
+        }
+    }
+
+    /** "behind those ahead of it": those of THE PAGE, not what was read of it before; each page is asked twice. */
+    private static void faultAskedAgain() {
+        asksAgain(0, "s1o2/k3l4", 1, 2, 3, 4, 5, 6, 7, 8, 9);
+        asksAgain(0, "s1o2/k3/", 1, 2, 3, 4, 5, 6, 7, 7);
+        asksAgain(1, "0x12,3x45", 1, 2, 3, 4, 5, 6, 7, 8, 9);
+        asksAgain(1, "0x12,3x0", 1, 2, 3, 4, 5, 6, 7, 7);
+    }
+
+    private static void asksAgain(int sort, String text, int... want) {
+        RammedCobbles x = new RammedCobbles();
+        for (int i = 0; i < text.length(); i++) {
+            x.letters(text.charAt(i));
+            String told = "fault(" + sort + ") of " + text.substring(0, i + 1);
+            c.looks(x, told, () -> x.fault(sort), want[i]);
+            c.looks(x, told + " again", () -> x.fault(sort), want[i]);
+            c.looks(x, told + " by the other sort", () -> x.fault(1 - sort), 0);
         }
     }
 
@@ -460,6 +480,8 @@ public final class TextBoundsTest {
         x.blank();
         Checks.write(x, "9x1");
         c.due("others", x.carts(), 1);
+        c.due("the other's row", x.cart(0, 0), 9);
+        c.due("the other's load is its own", x.cart(0, 1), 1);
         c.due("those before are gone", x.cart(1, 1), UNKNOWN);
         c.due("the street stays", x.count(0), 4);
     }

@@ -138,6 +138,8 @@ public final class TrenchBoundsTest {
         fits(full, 81, 511, 81);
         fits(full, 89, 511, 81);
         fits(full, 90, 1023, 90);
+        fits(full, 1, 0, 0);
+        fits(full, 0, 0, 0);
         RammedCobbles last = heapOf(2, 2, 2, 2, 2, 2, 2, 2, 2, 1);
         fits(last, 1, 512, 1);
         fits(last, 18, 511, 18);
@@ -257,6 +259,15 @@ public final class TrenchBoundsTest {
             c.looks(x, d[0] + " by " + d[1] + " above", () -> x.shake(at, 1, 0), d[2]);
             c.looks(x, d[0] + " by " + d[1] + " below", () -> x.shake(at, 1, 1), d[3]);
         }
+        RammedCobbles one = Checks.streetOf("k1k1k1s1/k1k1k1k1");
+        c.due("10 by 10", one.blow(3, 10), 1);
+        c.looks(one, "1 by 3 above", () -> one.shake(0, 1, 0), 1);
+        c.looks(one, "1 by 3 below", () -> one.shake(0, 1, 1), 3);
+        RammedCobbles second = Checks.streetOf("s1s1s1s1./s1.s1.s1");
+        c.looks(second, "by speed 2 the second step alone: 5 by 2 above", () -> second.shake(0, 2, 0), 5);
+        c.looks(second, "by speed 2 the second step alone: 5 by 2 below", () -> second.shake(0, 2, 1), 2);
+        c.looks(second, "by speed 2 over the hollows above", () -> second.shake(1, 2, 0), 0);
+        c.looks(second, "by speed 2 over the hollows below", () -> second.shake(1, 2, 1), 1);
         RammedCobbles six = Checks.streetOf("k1s1k1k1k1k1/k1k1k1k1k1k1");
         six.blow(1, 39);
         c.due("39 by 13", six.cell(1, 2), -3);

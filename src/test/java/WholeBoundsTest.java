@@ -19,6 +19,7 @@ public final class WholeBoundsTest {
         digestOfNothing();
         digestOfEachThing();
         digestOfAllAtOnce();
+        digestOfThreeYears();
         digestWraps();
         digestChangesNothing();
         refusedStreetOrCartsKeepTheImage();
@@ -244,6 +245,45 @@ public final class WholeBoundsTest {
         c.due("it is uneven", x.uneven() > 0 ? 1 : 0, 1);
         c.due("one would be lost", x.would(3, 4), 1);
         c.due("all of it", x.digest(), h);
+    }
+
+    /**
+     * "what would() tells of 3 YEARS with FROST 4": a stone in water, with WEAR 80 and less of JOINT by 2 each year,
+     * bears 110, 90, 70, 50. As a STONE it is LOOSE in the third year and LOST in the fourth; TILTED by one of the
+     * first two draws it is LOST in the third. None is LOST in two years.
+     */
+    private static void digestOfThreeYears() {
+        for (int leastDraw = 3; leastDraw <= 4; leastDraw++) {
+            RammedCobbles x = Checks.streetOf(".../.s1./...", "1x80");
+            c.due("99 by 4", x.blow(4, 99), 24);
+            x.grit(9);
+            int seed = seedWithLeastDraw(leastDraw);
+            x.seed(seed);
+            int lost = leastDraw == 3 ? 1 : 0;
+            c.due("would(2, 4), least draw " + leastDraw, x.would(2, 4), 0);
+            c.due("would(3, 3), least draw " + leastDraw, x.would(3, 3), 0);
+            c.due("would(3, 4), least draw " + leastDraw, x.would(3, 4), lost);
+            c.due("would(3, 5), least draw " + leastDraw, x.would(3, 5), 1);
+            c.due("would(4, 4), least draw " + leastDraw, x.would(4, 4), 1);
+            c.due("digest, least draw " + leastDraw, x.digest(), Checks.digestOf(
+                    -1, 0, -5, 0, 0, 0, 0, -1, 0, -5, 0, 0, 2, 0, -1, 0, -5, 0, 0, 0, 0,
+                    -1, 0, -5, 0, 0, 2, 0, 0, 1, -24, 1, 9, 9, 19, -1, 0, -5, 0, 0, 2, 0,
+                    -1, 0, -5, 0, 0, 0, 0, -1, 0, -5, 0, 0, 2, 0, -1, 0, -5, 0, 0, 0, 0,
+                    1, 80, 0, lost, 9, 1, 1, 0, 0, seed, 1, 0));
+        }
+    }
+
+    /** A seed the lesser one of whose next two draws is that. */
+    private static int seedWithLeastDraw(int draw) {
+        int seed = 0;
+        while (true) {
+            long one = (1103515245L * seed + 12345L) % 2147483648L;
+            long other = (1103515245L * one + 12345L) % 2147483648L;
+            if (Math.min(one / 65536 % 10, other / 65536 % 10) == draw) {
+                return seed;
+            }
+            seed++;
+        }
     }
 
     /** "(as longs, wrapping)": of a full page the digest is far greater than a long. */

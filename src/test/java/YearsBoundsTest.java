@@ -29,6 +29,7 @@ public final class YearsBoundsTest {
         stepsOfAYear();
         yearsOneToTwenty();
         yearsOneByOne();
+        wearByKindsOfEachYear();
         yearsRefused();
         wearJustAbove();
         wearOfAllTogether();
@@ -41,6 +42,7 @@ public final class YearsBoundsTest {
         whatCanBeMended();
         firstOfOneToFour();
         firstOfTheFirstEight();
+        firstByBitsAndSize();
         firstOfAsManyAsThereAre();
         firstTwentyTimes();
         c.end();
@@ -109,6 +111,12 @@ public final class YearsBoundsTest {
         borne(x, 1, 9999, 999, 8001, 900, 99);
         RammedCobbles two = Checks.streetOf("s1s1/..");
         borne(two, 0, 9999, 9000, 999);
+        RammedCobbles odd = Checks.streetOf("l1s1o1/...");
+        borne(odd, 0, 9999, 9000, 950, 49);
+        borne(odd, 0, 199, 180, 19, 0);
+        borne(odd, 0, 200, 180, 19, 1);
+        RammedCobbles kerbs = Checks.streetOf("l1k1k1/...");
+        borne(kerbs, 0, 9999, 8500, 1275, 224);
     }
 
     /** "of a stone to which it comes by two ways together". */
@@ -413,6 +421,24 @@ public final class YearsBoundsTest {
         }
     }
 
+    /**
+     * "by KINDS as the YEAR begins": of each of them. The one at the right is LOOSE by the first year, so in the second
+     * the other gives nothing away: 99 and 9 above 100, where it was 90 and 9 of 100 and 20.
+     */
+    private static void wearByKindsOfEachYear() {
+        int[] left = {0, 2, 2};
+        int[] right = {2, NONE, NONE};
+        int[] lost = {0, 1, 1};
+        RammedCobbles often = Checks.streetOf("s5s1/..", "0x99");
+        for (int many = 1; many <= 3; many++) {
+            RammedCobbles x = Checks.streetOf("s5s1/..", "0x99");
+            c.due("kinds of each: years(" + many + ", 0)", x.years(many, 0), lost[many - 1]);
+            c.cells(x, "kinds behind " + many, 0, left[many - 1], right[many - 1], NONE, NONE);
+            often.years(1, 0);
+            c.due("kinds of each: so often one", often.digest(), x.digest());
+        }
+    }
+
     private static RammedCobbles worn() {
         RammedCobbles x = Checks.streetOf("s1s2s3s4s5/o1s2o3s4o5/s9l8t7s6k5/s1s2.s4s5/o9o8o7o6o5",
                 "0x99,1x60,2x99,3x10,4x99,3x9");
@@ -511,6 +537,10 @@ public final class YearsBoundsTest {
         c.cells(x, "lost: seats", 3, 0, 0, 0, 0);
         c.cells(x, "lost: joints", 4, 0, 0, 0, 0);
         c.due("none is lost twice", x.years(20, 10), 0);
+        RammedCobbles dry = Checks.streetOf("k9l1k9/k9k9k9", "0x99,0x99,0x99,0x99,0x99,0x99");
+        dry.grit(9);
+        c.due("lost among kerbs: 342 above 20 and 180", dry.years(1, 0), 1);
+        c.cells(dry, "neither in water nor beside sand: joints", 4, 8, 0, 8, 9, 8, 9);
         RammedCobbles y = Checks.streetOf("s1./..", "0x99");
         y.grit(9);
         y.ram(1, 40, 0);
@@ -675,6 +705,20 @@ public final class YearsBoundsTest {
         c.due("four are lost yet", y.first(4, 1, 0, 1), 4);
         RammedCobbles sand = Checks.streetOf("....../....../....../....../......", "0x99");
         c.due("thirty: the least bits", sand.first(4, 20, 10, 0), 15);
+    }
+
+    /** "(bit 0: the first of these)"; "SAND with SIZE 5": alone it bears 100, and is LOST in two years by 101. */
+    private static void firstByBitsAndSize() {
+        RammedCobbles bits = Checks.streetOf("l1l9/..", "0x50");
+        c.due("lost, if none is mended", bits.would(1, 0), 1);
+        c.due("bit 0 alone helps", bits.first(1, 1, 0, 0), 1);
+        c.due("none is lost by it", bits.first(1, 1, 0, 1), 0);
+        RammedCobbles bears = Checks.streetOf("../..", "0x50,0x50,1x50,1x50");
+        c.due("wear 100 of 100", bears.first(1, 20, 0, 1), 0);
+        RammedCobbles breaks = Checks.streetOf("../..", "0x50,0x51,1x51,1x50");
+        c.due("wear 101 of 100, one year", breaks.first(1, 1, 0, 1), 0);
+        c.due("wear 101 of 100, two years", breaks.first(1, 2, 0, 1), 1);
+        c.due("of like ones", breaks.first(1, 2, 0, 0), 1);
     }
 
     /** "STATE: fewer than k can be MENDED". */
