@@ -738,6 +738,14 @@ public final class YearsBoundsTest {
             }
             c.due("done of " + many, x.count(7), many);
         }
+        RammedCobbles full = Checks.streetOf("k1k1k1k1k1k1/k1k1k1k1k1k1/k1k1k1k1k1k1/k1k1k1k1k1k1/k1k1k1k1k1t1",
+                NO_LOADS);
+        c.due("the last of thirty alone", full.first(1, 1, 0, 0), 1);
+        c.refuses(full, "none but the last of thirty", () -> full.first(2, 1, 0, 0), STATE);
+        RammedCobbles smaller = Checks.streetOf(".../...", NO_LOADS);
+        Checks.write(smaller, "k1k1/k1k1");
+        smaller.street();
+        c.refuses(smaller, "none of a smaller street, whatever lay behind it", () -> smaller.first(1, 1, 0, 0), STATE);
     }
 
     /** "or first() was done 20 times": those that were refused do not count; another STREET does not begin anew. */
