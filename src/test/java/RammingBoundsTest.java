@@ -19,6 +19,7 @@ public final class RammingBoundsTest {
         roundsToRam();
         ordersToRam();
         ordersOfNine();
+        ordersOfEight();
         ramOfNoStones();
         ringsJustBelow();
         ringsOfNoneAndAll();
@@ -259,6 +260,24 @@ public final class RammingBoundsTest {
             for (int cell = 0; cell < 9; cell++) {
                 c.due("nine, order " + order + ": height of " + cell, x.cell(cell, 2), -3 - sinks[order][cell]);
                 c.due("nine, order " + order + ": seat of " + cell, x.cell(cell, 3), 4);
+            }
+        }
+    }
+
+    /**
+     * The same with ROWS of four: CELLS of even numbers lie one above the other here, and so do the others, so that each
+     * of both sorts, by number, holds the one below it.
+     */
+    private static void ordersOfEight() {
+        int[][] sinks = {{13, 10, 10, 10, 10, 8, 8, 8}, {8, 8, 8, 10, 10, 10, 10, 13}, {13, 10, 10, 10, 10, 8, 8, 8},
+            {13, 8, 13, 10, 10, 7, 10, 8}};
+        int[] all = {77, 77, 77, 79};
+        for (int order = 0; order < 4; order++) {
+            RammedCobbles x = Checks.streetOf("l1l1l1l1/l1l1l1l1");
+            c.due("eight: ram(1, 3, " + order + ")", x.ram(1, 3, order), 24);
+            c.due("eight: ram(84, 1, " + order + ")", x.ram(84, 1, order), all[order]);
+            for (int cell = 0; cell < 8; cell++) {
+                c.due("eight, order " + order + ": height of " + cell, x.cell(cell, 2), -3 - sinks[order][cell]);
             }
         }
     }

@@ -22,6 +22,7 @@ public final class TrenchBoundsTest {
         shakeOfNothing();
         worstOfRows();
         worstOfLikeOnes();
+        worstByPartsOfOne();
         c.end();
     }
 
@@ -330,5 +331,21 @@ public final class TrenchBoundsTest {
         RammedCobbles six = Checks.streetOf("s1...../s1s1...s1");
         c.looks(six, "5 by 5, 5 by 2, 5, 5, 5: of like ones 3", () -> six.worst(0), 3);
         c.looks(six, "10 by 5, 5 by 2, 5, 5, 0: of like ones 3", () -> six.worst(1), 3);
+    }
+
+    /** "by which that is greatest": 9 by 4 is less than 5 by 2, though both are 2 and a part of 1. */
+    private static void worstByPartsOfOne() {
+        RammedCobbles x = Checks.streetOf("s1k1s1s1s1/k1k1k1k1k1");
+        c.due("50 by 10", x.blow(0, 50), 5);
+        c.due("24 by 12", x.blow(2, 24), 2);
+        c.due("33 by 11", x.blow(3, 33), 3);
+        c.due("36 by 9", x.blow(4, 36), 4);
+        int[][] due = {{9, 4}, {5, 2}, {2, 1}, {1, 1}, {0, 1}};
+        for (int speed = 1; speed <= 5; speed++) {
+            int by = speed;
+            c.looks(x, "shake(0, " + speed + ", 0)", () -> x.shake(0, by, 0), due[speed - 1][0]);
+            c.looks(x, "shake(0, " + speed + ", 1)", () -> x.shake(0, by, 1), due[speed - 1][1]);
+        }
+        c.looks(x, "worst: 9 by 4, 5 by 2, 2, 1", () -> x.worst(0), 2);
     }
 }

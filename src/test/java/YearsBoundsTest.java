@@ -1,3 +1,5 @@
+import java.util.TreeSet;
+
 /** The bounds that the document names for LOADS, WATER, YEARS and what is MENDED (promises 19 to 26). */
 public final class YearsBoundsTest {
     private static final int NONE = -1, UNKNOWN = -101, OUTSIDE = -102, STATE = -103;
@@ -45,6 +47,7 @@ public final class YearsBoundsTest {
         firstByBitsAndSize();
         firstOfAsManyAsThereAre();
         firstTwentyTimes();
+        firstFromNow();
         c.end();
     }
 
@@ -766,5 +769,52 @@ public final class YearsBoundsTest {
         x.street();
         c.refuses(x, "first, another street", () -> x.first(1, 1, 0, 0), STATE);
         c.due("first, done 20 times", x.count(7), 20);
+    }
+
+    /** Three that can be MENDED below the rim, among STONES and ODD ones there whose draws decide what is LOST. */
+    private static RammedCobbles hollow(int seed) {
+        RammedCobbles x = Checks.streetOf("k9k9k9k9k9/k9s1l2s1k9/k9o1s1t1k9/k9l1s2o1k9/k9k9k9k9k9", "1x60,2x60,3x60");
+        x.ram(40, 2, 0);
+        x.grit(3);
+        x.seed(seed);
+        return x;
+    }
+
+    /**
+     * "that by which least are LOST in so many YEARS from now": each set begins with THE STREET and THE SEED of now,
+     * whatever was drawn for the sets ahead of it, and THE SEED of now stays. Due is what mend() and would() tell.
+     */
+    private static void firstFromNow() {
+        for (int k = 1; k <= 2; k++) {
+            TreeSet<Integer> told = new TreeSet<>();
+            for (int seed = 0; seed < 40; seed++) {
+                int[] due = firstByTrying(seed, k, 4, 3);
+                RammedCobbles x = hollow(seed);
+                c.due("first(" + k + ", 4, 3, 0) by seed " + seed, x.first(k, 4, 3, 0), due[0]);
+                c.due("first(" + k + ", 4, 3, 1) by seed " + seed, x.first(k, 4, 3, 1), due[1]);
+                c.due("the seed stays " + seed, x.count(5), seed);
+                told.add(due[0]);
+            }
+            c.due("draws decide which set it is, k " + k, told.size() == 3 ? 1 : 0, 1);
+        }
+    }
+
+    /** The set of k and how many are LOST by it, each set MENDED and asked in turn. */
+    private static int[] firstByTrying(int seed, int k, int years, int frost) {
+        int[] mendable = {7, 13, 16};
+        int[] best = {NONE, GREATEST};
+        for (int bits = 1; bits < 8; bits++) {
+            RammedCobbles x = hollow(seed);
+            for (int i = 0; i < 3; i++) {
+                if ((bits & 1 << i) != 0) {
+                    c.due("mend(" + mendable[i] + ", 5)", x.mend(mendable[i], 5), 0);
+                }
+            }
+            int lost = x.would(years, frost);
+            if (Integer.bitCount(bits) == k && lost < best[1]) {
+                best = new int[] {bits, lost};
+            }
+        }
+        return best;
     }
 }
