@@ -92,10 +92,13 @@ public final class RandomRunsTest {
         int rows = 2 + random.nextInt(4);
         int wide = 2 + random.nextInt(5);
         String kinds = random.nextBoolean() ? "ssssookkk" : "soltks.solt";
+        // What lies inside sinks below a rim of kerbs: WATER stands there.
+        boolean isHollow = random.nextInt(3) == 0;
         int mostSize = 1 + random.nextInt(9);
         StringBuilder text = new StringBuilder();
         for (int i = 0; i < rows * wide; i++) {
-            char kind = kinds.charAt(random.nextInt(kinds.length()));
+            boolean atRim = i < wide || i >= (rows - 1) * wide || i % wide == 0 || i % wide == wide - 1;
+            char kind = isHollow && atRim ? 'k' : kinds.charAt(random.nextInt(kinds.length()));
             text.append(i > 0 && i % wide == 0 ? "/" : "").append(kind);
             text.append(kind == '.' ? "" : 1 + random.nextInt(mostSize));
         }
